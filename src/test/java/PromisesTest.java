@@ -44,6 +44,7 @@ public final class PromisesTest {
         read();
         torn();
         count();
+        allThatThereMayBe();
         Due.close("PromisesTest");
     }
 
@@ -135,6 +136,15 @@ public final class PromisesTest {
         Due.feed(x, "abc");
         be("end(0)", x.end(0), 3);
         be("feed behind end(0)", x.feed(112), 1);
+        String[] cutOff = {"shy  ;", "shyy 9 1;", "shy 9 12;"};
+        int[] keeps = {3, 3, 7};
+        for (int i = 0; i < 3; i++) {
+            x = new BeamClocks();
+            Due.feed(x, cutOff[i]);
+            x.end(keeps[i]);
+            be("bytes behind the end are not read: " + cutOff[i], x.text(), -10 - keeps[i]);
+            be("bytes behind the end are not read: " + cutOff[i], x.fault(), 2);
+        }
     }
 
     // 4
@@ -234,6 +244,11 @@ public final class PromisesTest {
         faulty("push 1; push !", 4, 8);
         faulty("shy 2 0;shy 2 0;shy 2 0;shy 2 0;shy 2 0; plain", 5, 41);
         faulty("shy 2 0;shy 2 0;shy 2 0;shy 2 0;shy 2 0; bell", 2, 41);
+        faulty("thy 2 1;", 2, 0);
+        faulty("bush 2;", 2, 0);
+        faulty("x".repeat(160), 2, 0);
+        faulty("1".repeat(160), 1, 0);
+        faulty("push".concat(" ".repeat(156)), 2, 160);
         BeamClocks x = new BeamClocks();
         Due.text(x, "push 6;");
         be("fault()", x.fault(), 3);
@@ -520,6 +535,9 @@ public final class PromisesTest {
         be("again() by no push", Due.told("plain 4 1;plain 6 3;push 0;").again(), 12);
         be("again() behind 300", Due.told("plain 25 0;plain 12 0;push 0;").again(), 300);
         be("again() behind 306", Due.told("plain 17 0;plain 18 0;push 0;").again(), NONE);
+        BeamClocks x = Due.told("plain 4 1;plain 6 3;push 0;");
+        x.beats(4);
+        be("again() from now", x.again(), 12);
     }
 
     private static final String SEARCHED = "plain 6 0;plain 7 4;push 2;";
@@ -550,12 +568,12 @@ public final class PromisesTest {
         be("the hand goes down to period less 1", x.period(0, 1), 0);
         be("it stays", x.clock(0, 2), 19);
         x = Due.told("plain 20 0;plain 30 0;push 0;");
-        be("up to 30", x.period(1, 0), 2);
-        be("up to 30", x.period(1, 1), 19);
-        x = Due.told("plain 30 0;plain 29 0;plain 30 0;push 0;");
-        be("a period of 30", x.period(1, 1), 29);
-        x = Due.told("shy 9 6;shy 5 4;push 3;");
-        be("one is enough", x.period(0, 1), 0);
+        be("2 does as well as 20", x.period(1, 0), 2);
+        be("2 does as well as 20", x.period(1, 1), 19);
+        // With its hand at 28 it beats in tick 1 by 30 alone: by 29 and by less it is at its end now.
+        x = Due.told("shy 29 28;plain 5 3;push 0;");
+        be("by 30 alone", x.period(0, 0), 30);
+        be("by 30 alone", x.period(0, 1), 1);
     }
 
     // 20
@@ -618,6 +636,10 @@ public final class PromisesTest {
         x = Due.told("shy 7 3;shy 5 0;push 2;");
         be("a greater push", x.force(0), 4);
         be("a greater push", x.force(1), 23);
+        // In this tick 15 goes on to 20 by 5, to 19 at most by less.
+        x = Due.told("plain 22 14;plain 2 1;push 4;");
+        be("the greatest push", x.force(0), 5);
+        be("the greatest push", x.force(1), 2);
     }
 
     // 23
@@ -643,6 +665,13 @@ public final class PromisesTest {
         x = Due.told("plain 4 2;plain 5 0;plain 4 3;");
         be("the first of several", x.away(0), 1);
         be("the first of several", x.away(1), 5);
+        x = Due.told("shy 5 0;plain 5 4;soft 6 1;push 2;");
+        be("together() as it is", x.together(), 5);
+        be("sooner by one", x.away(0), 1);
+        be("sooner by one", x.away(1), 4);
+        x = Due.told("shy 29 0;heavy 6 0;plain 7 4;push 2;");
+        be("the others stay of their kinds", x.away(0), 0);
+        be("the others stay of their kinds", x.away(1), 11);
         x = Due.told("plain 5 1;plain 6 1;push 0;");
         be("the last", x.away(0), 1);
         be("the last", x.away(1), 3);
@@ -834,6 +863,10 @@ public final class PromisesTest {
         x = Due.told("plain 4 0;plain 3 1;push 3;");
         be("halved by pushes: ask(0, 0)", x.ask(0, 0), 2);
         be("halved by pushes: ask(0, 1)", x.ask(0, 1), 2);
+        x = Due.told("shy 10 0;heavy 14 5;push 3;");
+        be("in tick 60: ask(0, 0)", x.ask(0, 0), 60);
+        be("in tick 60: ask(0, 1)", x.ask(0, 1), 7);
+        x = Due.told("plain 4 0;plain 3 1;push 3;");
         for (int v : new int[] {-1, 2, LOW, HIGH}) {
             be("ask(" + v + ", 0)", x.ask(v, 0), BAD);
             be("ask(0, " + v + ")", x.ask(0, v), BAD);
@@ -858,6 +891,13 @@ public final class PromisesTest {
         be("drift(1, 1, -1)", x.drift(1, 1, -1), BAD);
         be("no clocks", new BeamClocks().drift(1, 1, 0), STATE);
         be("no clocks, a bad one", new BeamClocks().drift(1, 0, 0), BAD);
+        x = Due.told("plain 12 3;soft 12 8;heavy 10 0;shy 15 14;push 2;");
+        int[][] due = {{7, 3, 2, 4}, {7, 20, 4, 20}, {7, 300, 62, 8}, {-3, 3, 2, 7}, {-3, 20, 5, 20}, {-3, 300, 64, 4},
+            {123456789, 20, 6, 7}, {123456789, 300, 65, 10}, {LOW, 20, 4, 16}, {LOW, 300, 56, 10}};
+        for (int[] d : due) {
+            be("drift(" + d[0] + ", " + d[1] + ", 0)", x.drift(d[0], d[1], 0), d[2]);
+            be("drift(" + d[0] + ", " + d[1] + ", 1)", x.drift(d[0], d[1], 1), d[3]);
+        }
         x = Due.told("plain 10 0;push 0;");
         for (int seed : new int[] {0, 1, -1, LOW, HIGH}) {
             be("no push: drift(" + seed + ", 300, 0)", x.drift(seed, 300, 0), 30);
@@ -1018,6 +1058,9 @@ public final class PromisesTest {
             be("read(1, 1, " + f + ", 20)", x.read(1, 1, f, 20), 0);
             be("torn()", x.torn(), 2);
         }
+        x = withSheet(1, 1, 0);
+        x.cut(1);
+        be("a clock that was cut", x.read(1, 1, 0, 1), -20);
         x = withSheet(2, new int[40]);
         be("twenty of them", x.read(1, 2, 0, 20), 20);
         be("twenty of them from 1", x.read(1, 2, 1, 20), 19);
@@ -1067,5 +1110,32 @@ public final class PromisesTest {
         for (int v : new int[] {-1, 6, LOW, HIGH}) {
             be("count(" + v + ")", x.count(v), BAD);
         }
+    }
+
+    /** Five CLOCKS, six SEEN: every row in use up to its end. */
+    private static void allThatThereMayBe() {
+        BeamClocks x = Due.told("plain 2 1;soft 2 1;heavy 2 1;shy 2 1;plain 2 1;push 5;");
+        for (int n = 0; n < 6; n++) {
+            be("the " + n + "th seen", x.see(n, 4, 1 - n % 2), n + 1);
+        }
+        be("hands(4)", x.hands(4), 2);
+        be("kinds(4)", x.kinds(4), 15);
+        be("periods(4)", x.periods(4), 4);
+        be("ask(4, 0)", x.ask(4, 0), NONE);
+        be("again()", x.again(), 2);
+        be("beats(0)", x.beats(0), 31);
+        be("runs(300, 0)", x.runs(300, 0), 750);
+        be("runs(1, 4)", x.runs(1, 4), 0);
+        be("runs(2, 4)", x.runs(2, 4), 5);
+        be("away(0)", x.away(0), NONE);
+        be("mean(5, 8, 0)", x.mean(5, 8, 0), 20);
+        be("luck(5, 4, 8, 0)", x.luck(5, 4, 8, 0), 1);
+        be("knock(4, 5)", x.knock(4, 5), 1);
+        be("count(4)", x.count(4), 10);
+        be("count(5)", x.count(5), 6);
+        be("keep(1)", x.keep(1), 0);
+        be("ticks(100)", x.ticks(100), 250);
+        be("back(1)", x.back(1), 0);
+        hands("back(1)", x, 1, 1, 1, 1, 1);
     }
 }
