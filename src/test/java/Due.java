@@ -1,9 +1,27 @@
-/** What the tests share: answers that are due, and texts that are fed. */
+/** What the tests share: sentences of the document, answers that are due, and texts that are fed. */
 final class Due {
     private static int held = 0;
     private static int wrong = 0;
+    private static String sentence = "";
+    private static int sentences = 0;
+    private static int ahead = 0;
 
     private Due() {
+    }
+
+    /** The answers from here on are due by this sentence of the document, up to the next one. */
+    static void sentence(String of) {
+        endOfSentence();
+        sentence = of;
+        sentences++;
+        ahead = held + wrong;
+    }
+
+    private static void endOfSentence() {
+        if (sentences != 0 && held + wrong == ahead) {
+            wrong++;
+            System.out.println("nothing is tested of: " + sentence);
+        }
     }
 
     static void be(String call, long got, long want) {
@@ -12,7 +30,7 @@ final class Due {
             return;
         }
         wrong++;
-        System.out.println(call + " answered " + got + ", due is " + want);
+        System.out.println((sentence.isEmpty() ? "" : "[" + sentence + "] ") + call + " answered " + got + ", due is " + want);
     }
 
     static void hold(String what, boolean holds) {
@@ -39,7 +57,9 @@ final class Due {
     }
 
     static void close(String name) {
-        System.out.println(name + ": " + held + " answers as due, " + wrong + " not");
+        endOfSentence();
+        String of = sentences == 0 ? "" : " of " + sentences + " sentences";
+        System.out.println(name + ": " + held + " answers" + of + " as due, " + wrong + " not");
         if (wrong != 0 || held == 0) {
             System.exit(1);
         }

@@ -2,8 +2,10 @@ import java.util.Random;
 
 /** Long random runs of calls, the program beside the model: each answer must be the same, and none may throw. */
 public final class ModelTest {
-    private static final int RUNS = 1200;
-    private static final int CALLS = 500;
+    private static final int RUNS = 1600;
+    // An object is used for 512 calls at most, and a text behind the last of these may take some 130 more.
+    private static final int CALLS = 380;
+    private static final int MOST_CALLS = 512;
     private static final int[] EDGES = {
         Integer.MIN_VALUE, Integer.MIN_VALUE + 1, -65536, -256, -2, -1, 31, 40, 41, 60, 61, 100, 101, 160, 161, 300, 301,
         10000, 65536, Integer.MAX_VALUE - 1, Integer.MAX_VALUE
@@ -27,6 +29,7 @@ public final class ModelTest {
             while (calls < CALLS) {
                 anyCall(taste);
             }
+            Due.hold(run + " is no longer than an object is used", calls <= MOST_CALLS);
         }
         Due.close("ModelTest");
     }
