@@ -554,6 +554,10 @@ public final class EdgesTest {
         be("behind 2", Due.told("plain 2 1;").again(), 2);
         be("behind 30", Due.told("plain 30 29;").again(), 30);
         be("behind 300", Due.told("plain 25 24;plain 12 3;push 0;").again(), 300);
+        BeamClocks asked = Due.told("plain 5 4;soft 7 2;push 0;");
+        be("asked once", asked.again(), 35);
+        asked.beats(3);
+        be("asked once more, from now", asked.again(), 35);
         be("hands alone, not who has beaten", Due.told("plain 5 4;shy 5 2;push 0;").again(), 5);
         Due.sentence("18: NONE: behind none");
         be("behind 304", Due.told("plain 16 0;plain 19 0;push 0;").again(), NONE);
@@ -929,6 +933,9 @@ public final class EdgesTest {
         x.see(0, 0, 0);
         x.see(1, 0, 0);
         both("it is known of two ticks", x.ask(0, 0), x.ask(0, 1), 2, 7);
+        // By hand 0 and by hand 1 it beats in tick 2, by 2 in tick 1, by 3 in this one.
+        x = Due.told("plain 4 0;plain 3 1;push 3;");
+        both("two are left either way", x.ask(0, 0), x.ask(0, 1), 2, 2);
         Due.sentence("31: fewer than now");
         x = Due.told("plain 3 0;");
         both("of three, two", x.ask(0, 0), x.ask(0, 1), 0, 2);
@@ -977,11 +984,33 @@ public final class EdgesTest {
             x.alter(which[many - 1], 0, 2);
             be("of " + many + ", heavy: by four", x.drift(1, 1, 1), sum - 4 + many);
         }
+        Due.sentence("32: PUSHED by hand (as by knock()), ahead of that TICK, n of them");
+        for (int seed : new int[] {0, 1, -1, 7, -3, 123456789, LOW, HIGH}) {
+            driftsAsByKnock(seed, 1);
+            driftsAsByKnock(seed, 2);
+            driftsAsByKnock(seed, 150);
+        }
         Due.sentence("32: STATE: there are no CLOCKS");
         both("no clocks", new BeamClocks().drift(1, 1, 0), new BeamClocks().drift(1, 300, 1), STATE, STATE);
         Due.sentence("32: BAD");
         both("what 2, -1", x.drift(1, 1, 2), x.drift(1, 1, -1), BAD, BAD);
         both("n 0, -1 of no clocks", new BeamClocks().drift(1, 0, 0), new BeamClocks().drift(1, -1, 0), BAD, BAD);
+    }
+
+    /** The same by knock() and ticks(), the seed in 64 bits of which the lowest 32 count. */
+    private static void driftsAsByKnock(int seed, int n) {
+        String text = "plain 12 3;soft 12 8;heavy 10 0;shy 15 14;plain 9 4;push 2;";
+        BeamClocks x = Due.told(text);
+        long next = seed;
+        int sum = 0;
+        for (int t = 0; t < n; t++) {
+            next = next * 1103515245L + 12345L & 0xFFFFFFFFL;
+            int got = (int) (next >> 16 & 0x7FFF);
+            x.knock(got % 5, 1 + got / 8 % 5);
+            sum += x.ticks(1);
+        }
+        BeamClocks y = Due.told(text);
+        both("drift(" + seed + ", " + n + ")", y.drift(seed, n, 0), y.drift(seed, n, 1), sum, x.rule(5));
     }
 
     private static void keep() {
@@ -1054,7 +1083,11 @@ public final class EdgesTest {
         Due.sentence("35: A SHEET is a new row of CELLS 0: 1");
         BeamClocks x = Due.told("plain 30 5;");
         Stands.cells(x, 0, 2, 0, 7);
-        be("sheet", x.sheet(0, 2, 40), 1);
+        be("as long as the one before", x.sheet(0, 2, 2), 1);
+        be("its cells are 0", x.read(0, 2, 0, 1), 1);
+        hands("its cells are 0", x, 0);
+        x.alter(0, 2, 5);
+        be("longer", x.sheet(0, 2, 40), 1);
         be("all are 0", x.read(0, 2, 0, 20), 20);
         hands("all are 0", x, 0);
         for (int n : new int[] {0, 1, 39, 40}) {
@@ -1190,6 +1223,10 @@ public final class EdgesTest {
         cells[39] = 5;
         refused("the twentieth", -39, 20, cells);
         be("but nineteen of them are taken", twoAndCells(cells).read(1, 2, 0, 19), 19);
+        BeamClocks cut = Due.told("plain 5 1;soft 30 3;plain 9 2;");
+        cut.cut(2);
+        Stands.cells(cut, 1, 2, 2, 0);
+        be("a clock that was cut", cut.read(1, 2, 0, 1), -20);
         Due.sentence("37: the first met");
         refused("two are refused", -21, 3, 0, 4, 0, 5, 0, 6);
         refused("refused ahead of the index", -21, 20, 0, 4, 0, 5, 0);
