@@ -255,6 +255,13 @@ public final class TermsTest {
             faulty(name + " 9 5;", 2, 0);
             faulty("  " + name, 2, 2);
         }
+        Due.sentence("NAMES (a .. z), as long as may be: each letter makes it another");
+        for (char letter = 'a'; letter <= 'z'; letter++) {
+            for (String name : "plain soft heavy shy push".split(" ")) {
+                faulty(" " + name + letter + " 5 4;", 2, 1);
+                faulty(" " + letter + name + " 5 4;", 2, 1);
+            }
+        }
         Due.sentence("FAULT 2: a TOKEN that can not stand there");
         faulty("9 plain 5;", 2, 0);
         faulty("; plain 9 5;", 2, 0);
