@@ -243,6 +243,8 @@ public final class EdgesTest {
         be("to 4", x.alter(0, 0, 4), BAD);
         be("to -1", x.alter(0, 0, -1), BAD);
         be("it is 3", x.clock(0, 0), 3);
+        be("of another, to 2", x.alter(1, 0, 2), 0);
+        be("of another, from 2", x.alter(1, 0, 1), 2);
         Due.sentence("8: PERIOD of a CLOCK becomes v: what it was");
         be("to 30", x.alter(0, 1, 30), 10);
         be("to 31", x.alter(0, 1, 31), BAD);
@@ -508,6 +510,9 @@ public final class EdgesTest {
         both("300 of the second", x.ahead(1, 300, 0), x.ahead(1, 300, 1), 29, 10);
         x.ticks(9);
         be("what it has beaten is not counted", x.ahead(1, 0, 1), 0);
+        x = Due.told("plain 2 0;plain 5 0;push 0;");
+        x.ticks(20);
+        both("nor what another has", x.ahead(0, 10, 1), x.ahead(1, 10, 1), 5, 2);
         Due.sentence("15: BAD");
         be("n 301", x.ahead(0, 301, 0), BAD);
         be("n -1", x.ahead(0, -1, 0), BAD);
@@ -603,6 +608,9 @@ public final class EdgesTest {
         both("the last hand of 2", x.hand(0, 0), x.hand(0, 1), 1, 0);
         x = Due.told("shy 9 4;plain 9 0;push 0;");
         both("the first hand", x.hand(0, 0), x.hand(0, 1), 0, 8);
+        BeamClocks hung = new BeamClocks();
+        hung.hang(0, 5);
+        be("of one just hung", hung.hand(0, 0), 4);
         Due.sentence("20: of several the least (what 0), in which TICK (1)");
         x = Due.told("shy 3 0;heavy 3 0;heavy 8 2;push 4;");
         both("1 and 2 do in tick 5", x.hand(0, 0), x.hand(0, 1), 1, 5);
@@ -914,6 +922,13 @@ public final class EdgesTest {
         be("the last of 2, seen twice", x.hands(1), 2);
         x.see(59, 1, 1);
         be("seen otherwise", x.hands(1), 0);
+        x.forget(0);
+        x.see(22, 0, 1);
+        x.see(1, 1, 1);
+        both("each is seen by itself", x.hands(0), x.hands(1), 1 << 7, 1);
+        x = new BeamClocks();
+        x.hang(0, 5);
+        be("of one just hung", x.hands(0), 31);
         Due.sentence("30: BAD");
         both("clock 2 of two, -1", x.hands(2), x.hands(-1), BAD, BAD);
     }
@@ -969,6 +984,11 @@ public final class EdgesTest {
         // Seed 1 becomes 1103527590: got is 16838: clock 0, 1 and 2104 mod 5: by 5. It beats: 11 goes back to 6.
         be("seed 1", x.drift(1, 1, 1), 6);
         be("it BEATS as it is pushed to its end ahead of that TICK", x.drift(1, 1, 0), 1);
+        // These become 0x3FFFF, 0x40000, 0x80030000: bits 0 to 15 and bit 31 are not got. Clock 3 alone goes on.
+        x = Due.told("shy 30 10;shy 30 10;shy 30 10;plain 30 20;shy 30 10;push 2;");
+        be("got is 3, all bits below set", x.drift(-1152271586, 1, 1), 60 + 2 + 5);
+        be("got is 4", x.drift(-1442077053, 1, 1), 60 - 1 + 5);
+        be("got is 3, the sign set", x.drift(1051108995, 1, 1), 60 + 2 + 5);
         Due.sentence("32: CLOCK got modulo CLOCKS");
         // 16838 modulo 1 to 5 is 0, 0, 2, 2, 3.
         int[] which = {0, 0, 2, 2, 3};
@@ -1332,6 +1352,13 @@ public final class EdgesTest {
         both("at the most", x.count(4), x.count(5), 150, 15);
         x.cut(1);
         both("those that are there", x.count(4), x.count(5), 30, 3);
+        x = new BeamClocks();
+        x.hang(3, 7);
+        x.hang(2, 9);
+        both("hung", x.count(4), x.count(5), 16, 5);
+        x.alter(0, 1, 8);
+        x.alter(0, 0, 1);
+        both("altered", x.count(4), x.count(5), 17, 3);
         Due.sentence("39: BAD");
         both("6, -1", x.count(6), x.count(-1), BAD, BAD);
     }

@@ -260,6 +260,13 @@ public final class TermsTest {
             for (String name : "plain soft heavy shy push".split(" ")) {
                 faulty(" " + name + letter + " 5 4;", 2, 1);
                 faulty(" " + letter + name + " 5 4;", 2, 1);
+                for (int i = 0; i < name.length(); i++) {
+                    boolean same = name.charAt(i) == letter;
+                    String other = name.substring(0, i) + letter + name.substring(i + 1);
+                    BeamClocks x = new BeamClocks();
+                    be("\"" + other + "\"", Due.text(x, other + (name.equals("push") ? " 5;" : " 5 4;")), same ? 1 : -10);
+                    be("fault of \"" + other + "\"", x.fault(), same ? 0 : 2);
+                }
             }
         }
         Due.sentence("FAULT 2: a TOKEN that can not stand there");
